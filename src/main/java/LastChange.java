@@ -476,19 +476,28 @@ public final class LastChange {
             return unit >= 0 && unit < lines + pairs;
         }
 
-        /** UNITS that MAY be sent always stand side by side: from() on, ahead of to(). */
-        int from() {
-            if (stays != NONE) {
-                return stays;
+        /** UNITS that MAY be sent always stand side by side: the first one of them. */
+        int firstToSend(int isShortFor, int staysWith) {
+            if (staysWith != NONE) {
+                return staysWith;
             }
-            return penalty > 0 && pairs > 0 ? lines : 0;
+            return isShortFor > 0 && pairs > 0 ? lines : 0;
+        }
+
+        /** The one behind the last of them. */
+        int endToSend(int isShortFor, int staysWith) {
+            if (staysWith != NONE) {
+                return staysWith + 1;
+            }
+            return isShortFor > 0 ? lines + pairs : lines;
+        }
+
+        int from() {
+            return firstToSend(penalty, stays);
         }
 
         int to() {
-            if (stays != NONE) {
-                return stays + 1;
-            }
-            return penalty > 0 && pairs > 0 ? lines + pairs : lines;
+            return endToSend(penalty, stays);
         }
 
         boolean may(int unit) {
@@ -952,11 +961,8 @@ public final class LastChange {
         void load(int isShortFor) {
             penalty = isShortFor;
             System.arraycopy(team.legs, 0, legs, 0, UNITS);
-            choose();
-            if (team.stays != NONE) {
-                from = team.stays;
-                to = team.stays + 1;
-            }
+            from = team.firstToSend(penalty, team.stays);
+            to = team.endToSend(penalty, team.stays);
             weigh();
         }
 
@@ -965,7 +971,8 @@ public final class LastChange {
             for (int unit = 0; unit < team.units(); unit++) {
                 legs[unit] = team.legsBehind(unit, before.legs[unit], unit == sent);
             }
-            choose();
+            from = team.firstToSend(penalty, NONE);
+            to = team.endToSend(penalty, NONE);
             weigh();
         }
 
@@ -975,12 +982,6 @@ public final class LastChange {
                 attack[unit] = team.attack[unit];
                 guard[unit] = team.guard[unit];
             }
-        }
-
-        private void choose() {
-            boolean pairs = penalty > 0 && team.pairs > 0;
-            from = pairs ? team.lines : 0;
-            to = pairs ? team.units() : team.lines;
         }
 
         private void weigh() {

@@ -210,7 +210,7 @@ public final class FuzzTest {
 
     public static void main(String[] args) {
         long from = args.length > 0 ? Long.parseLong(args[0]) : 1;
-        int runs = args.length > 1 ? Integer.parseInt(args[1]) : 300;
+        int runs = args.length > 1 ? Integer.parseInt(args[1]) : 2000;
         for (int i = 0; i < runs; i++) new FuzzTest(from + i).run();
         System.out.println("FuzzTest: " + runs + " runs, " + wrong + " wrong answers");
         if (wrong > 0) System.exit(1);
