@@ -88,6 +88,13 @@ public final class AskingTest extends Sentences {
         due("game(500)", x.game(500), 4);
         due("its place", x.fault(), 500);
 
+        int[][] cuts = {{4, 1, 0}, {5, 1, 5}, {6, 1, 6}, {7, 1, 7}, {8, 1, 8}, {9, 2, 6}};
+        for (int[] cut : cuts) {
+            feed(x, "clock 999;");
+            due("game(" + cut[0] + ") of clock 999;", x.game(cut[0]), cut[1]);
+            due("its place", x.fault(), cut[2]);
+        }
+
         about("(it is empty then, with a FAULT, too)");
         feed(x, game(L, L) + "!".repeat(60));
         x.game(game(L, L).length());
@@ -281,6 +288,10 @@ public final class AskingTest extends Sentences {
         // LEGS 4, 4; POWERS 13, 29: POWER, not ATTACK.
         due("rested(0, 0) by POWER", power.rested(0, 0), 1);
         due("rested(0, 1) by POWER", power.rested(0, 1), 0);
+
+        LastChange legs = told(game("line 99 0 4 1 1;line 0 0 5 1 1;line 99 0 14 1 1;line 0 0 15 1 1;", L));
+        int[] byLegs = {3, 2, 1, 0};
+        for (int k = 0; k < 4; k++) due("rested(0, " + k + ") by LEGS ahead of all POWER", legs.rested(0, k), byLegs[k]);
 
         about("NoSuchElementException: no such TEAM; there is none such.");
         for (int t : NO_TEAM) refuses("rested(" + t + ", 0)", NO_SUCH, z -> z.rested(t, 0));

@@ -209,7 +209,26 @@ public final class GamesTest extends Sentences {
         a.set(0, 2, 1);
         meets("TEAM 1 sends first, b alone MAY come", a, 0, 2, 1, 1);
 
+        for (int t = 0; t < 2; t++) for (int last = 0; last < 2; last++) {
+            // By two TURNS LINE 1 would come first; by the EDGE of this one LINE 0 does: 80 against 78.
+            String tires = "line 80 0 4 2 2;line 39 0 9 1 1;", still = "line 0 0 9 1 1;";
+            LastChange y = told(t == 0 ? game(tires, still) : game(still, tires));
+            y.see(last);
+            y.turn(0, 0);
+            y.play(NO_GOAL, 1, 2, 2);
+            due("TEAM " + t + " looks no further: LEGS of LINE 0", y.unit(t, 0, 5), 0);
+        }
+
         about("3 FIRST, REPLY by k 2 (1 by CLOCK 1);");
+        for (int t = 0; t < 2; t++) for (int last = 0; last < 2; last++) {
+            // LINE 0 has a POWER with all 3 LEGS alone: with 1 it would rest by three TURNS, by two it may as well go.
+            String rests = "line 1 0 3 2 1;line 0 0 9 1 1;", still = "line 0 0 9 1 1;";
+            LastChange y = told(t == 0 ? game(rests, still) : game(still, rests));
+            y.see(last);
+            y.turn(0, 0);
+            y.play(NO_GOAL, 1, 3, 3);
+            due("TEAM " + t + " looks two TURNS ahead: LEGS of LINE 0", y.unit(t, 0, 5), 0);
+        }
         // LINE 0 with 2 of 4 LEGS is worth 80, LINE 1 78; by two TURNS LINE 1 and LINE 0, rested, 78 + 160.
         String own = "line 80 0 4 2 2;line 39 0 9 1 1;";
         for (int t = 0; t < 2; t++) for (int last = 0; last < 2; last++) for (int clock = 1; clock <= 3; clock++) {
@@ -254,6 +273,10 @@ public final class GamesTest extends Sentences {
         most.set(1, 3, 1);
         int[][] wide = {{0, 1, 0}, {449, 1, 0}, {450, 0, 1}, {899, 0, 1}, {900, 0, 0}};
         for (int[] e : wide) shot("450 and 450", most, e[0], e[1], e[2]);
+
+        LastChange odd = told("clock 9;team 2;" + L + "team 1;" + L);
+        int[][] uneven = {{98, 1, 0}, {99, 0, 1}, {196, 0, 1}, {197, 0, 0}};
+        for (int[] e : uneven) shot("99 and 98", odd, e[0], e[1], e[2]);
 
         about("(GOALS are 99 at most)");
         x.set(0, 0, 98);

@@ -307,6 +307,35 @@ public final class IceTest extends Sentences {
             due("it STAYS", one.blind(2, 0), 80);
             due("it STAYS", one.blind(3, 1), 100);
         }
+        blindBySome();
+    }
+
+    private static void blinds(String what, LastChange x, int k, int want) {
+        for (int w = 0; w < 2; w++) due(what + ": blind(" + k + ", " + w + ")", x.blind(k, w), want);
+    }
+
+    /** Asked ahead of each change, too, so that nothing is left of what was then. */
+    private static void blindBySome() {
+        for (int t = 0; t < 2; t++) for (int last = 0; last < 2; last++) {
+            int sign = t == 0 ? 1 : -1;
+            String own = "line 60 0 1 1 1;line 10 0 1 1 1;pair 30 0 1 1 1;";
+            LastChange x = told(t == 0 ? game(own, L) : game(L, own));
+            x.see(last);
+            blinds("its LINES", x, 1, sign * 120);
+            x.set(t, 2, 1);
+            blinds("it STAYS with 1", x, 1, sign * 20);
+            x.set(t, 2, NONE);
+            x.set(t, 1, 15);
+            // by its PAIR: 160 / 2 - 200
+            blinds("SHORT", x, 1, sign * -120);
+            x.set(t, 1, 0);
+            blinds("its LINES again", x, 1, sign * 120);
+            // One alone, without LEGS: no other one can be sent while it rests.
+            LastChange tired = told(t == 0 ? game("line 60 0 3 3 1;", L) : game(L, "line 60 0 3 3 1;"));
+            tired.see(last);
+            tired.turn(0, 0);
+            for (int k = 1; k <= 4; k++) blinds("one alone, tired", tired, k, 0);
+        }
     }
 
     private static void rotations() {
@@ -349,6 +378,30 @@ public final class IceTest extends Sentences {
         z.set(0, 1, 1);
         // SHORT by its PAIR: 180 / 2 - 200.
         due("TEAM 0 SHORT: its PAIR", z.rotation(0, 2, NONE), -110 + 60);
+
+        LastChange alone = told("clock 9;team 0;line 60 40 3 3 1;pair 99 99 9 1 1;team 0;line 0 0 15 1 1;");
+        for (int n = 8; n >= 1; n--) due("one LINE alone, n " + n, alone.rotation(0, n, NONE), 200);
+        alone.set(0, 1, 15);
+        due("SHORT: its PAIR", alone.rotation(0, 1, NONE), 149);
+        alone.rotation(0, 8, NONE);
+        alone.set(0, 1, 0);
+        for (int n = 1; n <= 8; n++) due("its LINE alone again, n " + n, alone.rotation(0, n, NONE), 200);
+        LastChange fewer = told("clock 0;team 0;line 60 40 3 3 1;line 0 0 1 1 1;team 0;line 0 0 15 1 1;");
+        int[] less = {200, 200, 266, 332, 400, 400, 466, 532};
+        for (int n = 8; n >= 1; n--) due("by fewer behind more, n " + n, fewer.rotation(0, n, NONE), less[n - 1]);
+        LastChange tired = told("clock 1;team 0;line 60 40 3 3 3;line 0 0 1 1 1;team 0;line 0 0 15 1 1;");
+        tired.turn(0, 0);
+        int[] sums = {0, 200, 200, 400};
+        for (int n = 1; n <= 4; n++) due("LINE 0 tired at first, n " + n, tired.rotation(0, n, NONE), sums[n - 1]);
+        int[] sent = {1, 0, 1, 0};
+        for (int i = 0; i < 4; i++) due("LINE 0 tired at first, i " + i, tired.rotation(0, 4, i), sent[i]);
+        LastChange six = told(game(L.repeat(4) + P + "pair 10 0 15 1 1;", L));
+        six.set(0, 1, 15);
+        // SHORT: half of 100 and twice the POWER, less 200; LEGS 15, 14, .. 8 of 15.
+        int together = 0;
+        for (int power : new int[] {10, 9, 8, 8, 7, 6, 6, 5}) together += 50 + power - 200;
+        due("its last PAIR of six UNITS", six.rotation(0, 8, NONE), together);
+        for (int i = 0; i < 8; i++) due("its last PAIR, i " + i, six.rotation(0, 8, i), 5);
 
         about("the UNITS (of several rows the first one along it).");
         LastChange turns = told(game("line 10 0 1 1 1;line 10 0 1 1 1;", L));

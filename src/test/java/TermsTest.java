@@ -93,6 +93,13 @@ public final class TermsTest extends Sentences {
         x.see(1);
         tell(x, game(L, L));
         due("LAST of a text behind see(1)", x.count(1), 0);
+        tell(x, "clock 9;team 0;" + L + "team last 0;" + L);
+        due("LAST of a text that tells TEAM 1", x.count(1), 1);
+        tell(x, game(L, L));
+        due("LAST of a text that tells none, behind that", x.count(1), 0);
+        tell(x, "clock 9;team 0;" + L + "team last 0;");
+        tell(x, game(L, L));
+        due("LAST of a text that tells none, behind a FAULT", x.count(1), 0);
 
         about("EXTRA: 0 to 300 (150 at first).");
         bounds("clock 9;extra ", ";team 0;" + L + "team 0;" + L, 0, 300);
@@ -153,7 +160,10 @@ public final class TermsTest extends Sentences {
         fault("clock 1;teamlast 0;", 1, 8);
         fault("clock 1;team lastx 0;", 1, 13);
         fault("clock 1;te am 0;", 1, 8);
-        for (String part : new String[] {"c", "cloc", "lock"}) fault(part + " 1;", 1, 0);
+        for (String part : new String[] {"c", "cloc", "lock", "block", "clack", "clocc"}) fault(part + " 1;", 1, 0);
+        for (String part : new String[] {"beam", "teal", "fine", "lint", "hair", "paid", "dxtra", "extrb"}) fault(game(L, "") + part + " 1", 1, 37);
+        fault("clock 1;team past 0;", 1, 13);
+        fault("clock 1;team lasu 0;", 1, 13);
         for (String part : new String[] {"t", "tea", "teams", "lin", "lines", "pai", "pairs", "extr", "extras", "a", "z"}) fault(game(L, "") + part + " 1", 1, 37);
 
         about("NUMBERS (the longest row of figures)");
